@@ -1178,7 +1178,9 @@ public final class DebtCouncil {
 
         void movePrice() {
             // a VOID bond's PRICE stands, but its MONTHS go by all the same
-            System.arraycopy(prices, 0, prices, 1, LAST_LAG);
+            for (int ago = LAST_LAG; ago > 0; ago--) {
+                prices[ago] = prices[ago - 1];
+            }
             if (!isVoid) {
                 prices[0] = owed == 0 ? Math.min(MOST_PRICE, prices[0] + 2) : Math.max(0, prices[0] - 5);
             }

@@ -11,6 +11,7 @@ final class ChoicesTest {
         chooseOfSeveral();
         rows();
         judge();
+        judgeRising();
         C.end();
     }
 
@@ -151,6 +152,19 @@ final class ChoicesTest {
         C.due("35: gone", x.row(1, 0), -9);
         C.due("35: dropRow()", x.dropRow(), 0);
         C.due("35: dropRow()", x.dropRow(), DebtCouncil.NONE);
+    }
+
+    /** Rows whose numbers are right, but that tell a CHOICE twice, or a lower one behind a higher. */
+    private static void judgeRising() {
+        DebtCouncil x = new DebtCouncil();
+        x.choice(5, 5, 5, 0);
+        x.choice(5, 5, 5, 0);
+        x.choose(10);
+        C.due("36: right", x.judge(10), 0);
+        x.alterRow(1, 0, 0);
+        C.due("36: the same twice", x.judge(10), 2);
+        x.alterRow(0, 0, 1);
+        C.due("36: falling", x.judge(10), 2);
     }
 
     private static void judge() {

@@ -78,6 +78,18 @@ final class DebtsTest {
             int due = month == 9 || month == 13 || month == 17 || month == 21 || month == 25 || month == 29 ? 10 : 0;
             C.due("14: FALLS in " + month, x.debtOf(0, month, 9), due);
         }
+        Checks.read(x, "rank 3 if since=0; rank 4 if since=1;");
+        C.due("14: since, as it comes", x.debtOf(0, 5, 6), 3);
+        C.due("14: since, a month on", x.debtOf(0, 6, 6), 4);
+        C.due("14: since, later", x.debtOf(0, 7, 6), 9);
+        DebtCouncil y = new DebtCouncil();
+        Checks.read(y, "rank 3 if since=0;");
+        y.months(5);
+        y.debt(0, 100, 1);
+        C.due("14: since is 0 at least", y.debtOf(0, 2, 6), 3);
+        x = new DebtCouncil();
+        x.months(5);
+        x.debt(0, 400, 10);
         C.due("14: cut up", Checks.read(x, "cut 1;"), 0);
         C.due("14: cut up", x.debtOf(0, 9, 9), 9);
         C.due("14: cut whole", Checks.read(x, "cut 100;"), 1);
@@ -156,6 +168,12 @@ final class DebtsTest {
         fault("  x", 2);
         fault("Rank 5;", 0);
         fault("ranks 5;", 0);
+        fault("rankz 5;", 0);
+        fault("ranka 5;", 0);
+        fault("`", 0);
+        fault("{", 0);
+        fault("rank /;", 5);
+        fault("rank :;", 5);
         fault("ran 5;", 0);
         fault("5", 0);
         fault("cut 101;", 4);
@@ -178,6 +196,9 @@ final class DebtsTest {
         fault("bar if 5<sum;", 7);
         fault("bar if salt salt;", 12);
         fault("bar if salt and;", 15);
+        fault("bar if salt or;", 14);
+        fault("bar if (salt or);", 15);
+        fault("bar if (salt and);", 16);
         fault("bar if salt or and salt;", 15);
         fault("bar if not;", 10);
         fault("bar if salt not;", 12);

@@ -15,6 +15,7 @@ final class HostTest {
         many();
         keep();
         keepsNot();
+        keepsPrices();
         C.end();
     }
 
@@ -335,6 +336,19 @@ final class HostTest {
         x.months(1);
         x.again();
         C.due("46: the latest", x.many(0), 15);
+    }
+
+    private static void keepsPrices() {
+        DebtCouncil x = new DebtCouncil();
+        x.debt(0, 1200, 1);
+        x.months(8);
+        x.keep();
+        x.months(20);
+        x.again();
+        for (int lag = 0; lag <= 6; lag++) {
+            x.lag(0, lag);
+            C.due("46: PRICES of " + lag + " months ago", x.knows(0, 0), 66 - 2 * lag);
+        }
     }
 
     /** THE TAPE, ROWS, SHEETS, SHELVES and THE TRACE stand as they are. */

@@ -4,7 +4,7 @@ import java.util.Random;
 
 /** Random runs of at most 512 calls, from told seeds, on the program and on Model: all answers must be the same. */
 final class ModelTest {
-    private static final int RUNS = 1500, CALLS = 512;
+    private static final int RUNS = 800, CALLS = 512;
     private static final int METHODS = 45;
     private static final int[] EDGES = {Integer.MIN_VALUE, Integer.MAX_VALUE, -15, -9, -4, -3, -2, -1, 0, 1, 2, 3, 4, 5, 6,
         7, 8, 9, 10, 11, 12, 13, 14, 15, 16, 20, 39, 40, 41, 49, 50, 60, 61, 99, 100, 101, 200, 201, 400, 401, 599, 600,
@@ -21,9 +21,10 @@ final class ModelTest {
 
     public static void main(String[] args) {
         long calls = 0;
-        for (int seed = 0; seed < RUNS; seed++) {
+        int runs = args.length > 0 ? Integer.parseInt(args[0]) : RUNS;
+        for (int seed = 0; seed < runs; seed++) {
             ModelTest test = new ModelTest(seed);
-            if (!test.runs(seed)) {
+            if (!test.runs()) {
                 System.out.println("seed " + seed + ":");
                 test.run.forEach(System.out::println);
                 System.exit(1);
@@ -42,7 +43,7 @@ final class ModelTest {
         return random.nextInt(40) == 0 ? EDGES[random.nextInt(EDGES.length)] : from + random.nextInt(to - from + 1);
     }
 
-    private boolean runs(int seed) {
+    private boolean runs() {
         // some runs end early in the months, or have few things, so that more of the edges come up
         int monthly = random.nextInt(3);
         while (run.size() < CALLS) {

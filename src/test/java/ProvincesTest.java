@@ -15,6 +15,7 @@ final class ProvincesTest {
         bestRate();
         least();
         leastOfSeveral();
+        leastOfMany();
         provinceOf();
         garrisons();
         C.end();
@@ -246,6 +247,21 @@ final class ProvincesTest {
         x.months(1);
         C.due("11: mutiny", x.provinceOf(3, 1), 1);
         C.due("11: those in mutiny, too", x.least(9, 0, 3), 9);
+    }
+
+    private static void leastOfMany() {
+        DebtCouncil x = new DebtCouncil();
+        x.rate(1, 100);
+        for (int i = 0; i < 8; i++) {
+            x.province(0, 1);
+            x.yield1(i, 1, 100);
+        }
+        int[] due = {9, 9, 9, 9, 4, 0, 0, 0};
+        for (int i = 0; i < 8; i++) {
+            C.due("11: all 40 are laid, PROVINCE " + i, x.least(40, 0, i), due[i]);
+        }
+        C.due("11: all 40 are laid", x.least(40, 0, -1), 400);
+        C.due("11: all 39 are laid", x.least(39, 0, 4), 3);
     }
 
     private static void provinceOf() {
