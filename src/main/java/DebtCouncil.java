@@ -1704,11 +1704,17 @@ public final class DebtCouncil {
             pairedSum = 0;
             Arrays.fill(partner, -1);
             for (int i = 0; i < papers.count; i++) {
-                Arrays.fill(seen, false);
+                forgetSeen();
                 if (papers.at(i, PAPER_BOOK) == 0 && findsPartner(papers, i, 0)) {
                     pairs++;
                     pairedSum += papers.at(i, PAPER_SUM);
                 }
+            }
+        }
+
+        private void forgetSeen() {
+            for (int j = 0; j < MOST_PAPERS; j++) {
+                seen[j] = false;
             }
         }
 

@@ -35,6 +35,7 @@ final class FaceTest {
         members();
         String source = Files.readString(Path.of(SOURCE));
         words(source);
+        library(bare(source));
         methodsAreShort(source);
         C.end();
     }
@@ -110,6 +111,17 @@ final class FaceTest {
             C.due("import " + imports.group(1), imports.group(1).equals("java.util.Arrays") ? 1 : 0, 1);
         }
         C.due("no package", bare.contains("package ") ? 1 : 0, 0);
+    }
+
+    /** Rule 4: only what it lists, and Arrays.fill over numbers alone. */
+    private static void library(String bare) {
+        Set<String> told = Set.of("Math.min", "Math.max", "Math.abs", "Arrays.fill", "Arrays.copyOf", "System.arraycopy");
+        Matcher calls = Pattern.compile("\\b(Math|Arrays|System|Integer|Long|String)\\.\\w+").matcher(bare);
+        while (calls.find()) {
+            C.due(calls.group() + " is told in rule 4", told.contains(calls.group()) ? 1 : 0, 1);
+        }
+        Matcher fills = Pattern.compile("Arrays\\.fill\\([^;]*\\b(true|false)\\)").matcher(bare);
+        C.due("Arrays.fill over booleans", fills.find() ? 1 : 0, 0);
     }
 
     private static void methodsAreShort(String source) {

@@ -7,6 +7,7 @@ final class PapersTest {
         mayBeOne();
         bills();
         ways();
+        eachAskedFirst();
         C.end();
     }
 
@@ -69,6 +70,20 @@ final class PapersTest {
         C.due("28: SURE", x.bills(-2), 107);
         C.due("28: SINGLE", x.bills(-3), 2);
         C.due("28: no PAPER", x.bills(2), DebtCouncil.BAD);
+    }
+
+    /** No answer leans on another's having been asked ahead of it. */
+    private static void eachAskedFirst() {
+        int[] due = {2, 11, 1};
+        for (int k = 0; k < 3; k++) {
+            DebtCouncil x = new DebtCouncil();
+            x.paper(0, 5, 0, 7);
+            x.paper(1, 5, 0, 8);
+            x.paper(1, 6, 0, 8);
+            C.due("28: asked first, " + (-1 - k), x.bills(-1 - k), due[k]);
+            x.paper(0, 6, 0, 9);
+            C.due("28: asked behind a new one, " + (-1 - k), x.bills(-1 - k), new int[] {2, 11, 0}[k]);
+        }
     }
 
     /** A pair that is taken first must be given up, so that more pairs come. */

@@ -8,6 +8,7 @@ final class ProvincesTest {
         province();
         yield1();
         yields();
+        yieldsNotAsTold();
         guards();
         rate();
         harvest();
@@ -117,6 +118,28 @@ final class ProvincesTest {
         x.put(0, 4, 65536 + 8);
         C.due("5: narrowed", x.yields(0, 0, 2), 1);
         C.due("5: narrowed", x.yield1(0, 2, 0), 8);
+    }
+
+    private static void yieldsNotAsTold() {
+        for (int at = 0; at < 3; at++) {
+            for (int v : new int[] {-32768, -1, 0, 999, 1000, 32767}) {
+                DebtCouncil x = new DebtCouncil();
+                x.province(0, 1);
+                for (int sort = 0; sort < 3; sort++) {
+                    x.yield1(0, sort, 11 + sort);
+                }
+                x.sheet(2, 1, 4);
+                for (int i = 1; i <= 3; i++) {
+                    x.put(2, i, i == at + 1 ? v : 500 + i);
+                }
+                boolean isTold = v >= 0 && v <= 999;
+                C.due("5: item " + at + " is " + v, x.yields(0, 2, 1), isTold ? 1 : DebtCouncil.STATE);
+                for (int sort = 0; sort < 3; sort++) {
+                    int due = !isTold ? 11 + sort : sort == at ? v : 501 + sort;
+                    C.due("5: YIELD of SORT " + sort, x.yield1(0, sort, 0), due);
+                }
+            }
+        }
     }
 
     private static void guards() {
