@@ -24,6 +24,9 @@ final class TermsTest {
         cutsGoUp();
         barredOnes();
         byTheMonthThatItBecomes();
+        monthsOneByOne();
+        potsOfSorts();
+        getsByTheMonth();
         spares();
         potJustEnough();
         ranksInTurn();
@@ -455,6 +458,80 @@ final class TermsTest {
         C.due("3: since is of the MONTH that it becomes", x.debtOf(0, 0, 5), 0);
         x.months(1);
         C.due("3: since is of the MONTH that it becomes", x.debtOf(0, 0, 5), 5);
+    }
+
+    private static void monthsOneByOne() {
+        C.due("2: 60 MONTHS are 60 times one", Lands.differ(TermsTest::sixty, TermsTest::sixtyOnes), -1);
+    }
+
+    private static DebtCouncil sixty() {
+        DebtCouncil x = Lands.some();
+        C.due("2: NOW", x.months(60), 66);
+        return x;
+    }
+
+    private static DebtCouncil sixtyOnes() {
+        DebtCouncil x = Lands.some();
+        for (int i = 0; i < 60; i++) {
+            C.due("2: NOW", x.months(1), 7 + i);
+        }
+        return x;
+    }
+
+    /** Each SORT has its own POT, and spare takes its part of each. */
+    private static void potsOfSorts() {
+        DebtCouncil x = new DebtCouncil();
+        x.province(0, 1);
+        x.guards(0, 9);
+        for (int sort = 0; sort < 3; sort++) {
+            x.rate(sort, 100);
+            x.yield1(0, sort, 5 + 2 * sort);
+            x.debt(0, 110 + sort, 50);
+        }
+        x.keep();
+        x.months(1);
+        for (int sort = 0; sort < 3; sort++) {
+            C.due("3: the POT of SORT " + sort, x.debtOf(sort, 0, 12), 5 + 2 * sort);
+            C.due("3: OWED on SORT " + sort, x.debtOf(sort, 0, 5), 45 - 2 * sort);
+        }
+        C.due("3: nothing is left", x.many(11), 0);
+        x.again();
+        Checks.read(x, "spare 50;");
+        x.months(1);
+        for (int sort = 0; sort < 3; sort++) {
+            C.due("3: less the spare of SORT " + sort, x.debtOf(sort, 0, 12), 3 + sort);
+        }
+        C.due("3: 2.5, 3.5 and 4.5, each cut", x.many(11), 9);
+        x.again();
+        x.voids(1);
+        x.months(1);
+        C.due("3: what is left of a SORT is for no other", x.debtOf(0, 0, 12), 5);
+        C.due("3: it goes to THE TREASURY", x.many(11), 7);
+    }
+
+    private static void getsByTheMonth() {
+        DebtCouncil x = new DebtCouncil();
+        x.debt(0, 300, 10);
+        x.debt(0, 210, 10);
+        x.months(5);
+        Checks.read(x, "rank 1 if form=0; rank 2; cut 50 if form=1;");
+        x.months(1);
+        Checks.read(x, "spare 100;");
+        // of the first 10 fell due in MONTHS 3 and 6, of the second in 2 and 4, and by the cut 5 in 6
+        C.due("3: OWED", x.debtOf(0, 0, 5), 20);
+        C.due("3: OWED", x.debtOf(1, 0, 5), 25);
+        C.due("20: MONTH 1: nothing FALLS, no TEXT", x.gets(0, 1, 50), 20);
+        // 20 and 25 of 25: 11.1 and 13.8, cut, and 1 for the first
+        C.due("20: MONTH 1: no RANKS", x.gets(0, 1, 25), 12);
+        C.due("20: MONTH 1: no RANKS", x.gets(1, 1, 25), 13);
+        C.due("20: MONTH 3: 10 FALLS of the first", x.gets(0, 3, 9999), 30);
+        C.due("20: MONTH 3: nothing FALLS of the second", x.gets(1, 3, 9999), 25);
+        C.due("20: MONTH 4: 10 FALLS of the second", x.gets(1, 4, 9999), 35);
+        C.due("20: MONTH 5: by RANKS", x.gets(0, 5, 25), 20);
+        C.due("20: MONTH 5: by RANKS", x.gets(1, 5, 25), 5);
+        C.due("20: MONTH 6: all is spared", x.gets(0, 6, 9999), 0);
+        C.due("20: MONTH 599: all is spared", x.gets(1, 599, 9999), 0);
+        C.due("20: nothing changed", x.debtOf(1, 0, 5), 25);
     }
 
     private static void spares() {
