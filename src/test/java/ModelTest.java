@@ -4,7 +4,8 @@ import java.util.Random;
 
 /** Random runs of at most 512 calls, from told seeds, on the program and on Model: all answers must be the same. */
 final class ModelTest {
-    private static final int RUNS = 800, CALLS = 512;
+    /** One turn may feed a whole text and read it. */
+    private static final int RUNS = 800, CALLS = 512, CALLS_OF_A_TURN = 31;
     private static final int METHODS = 45;
     private static final int[] EDGES = {Integer.MIN_VALUE, Integer.MAX_VALUE, -15, -9, -4, -3, -2, -1, 0, 1, 2, 3, 4, 5, 6,
         7, 8, 9, 10, 11, 12, 13, 14, 15, 16, 20, 39, 40, 41, 49, 50, 60, 61, 99, 100, 101, 200, 201, 400, 401, 599, 600,
@@ -46,7 +47,7 @@ final class ModelTest {
     private boolean runs() {
         // some runs end early in the months, or have few things, so that more of the edges come up
         int monthly = random.nextInt(3);
-        while (run.size() < CALLS) {
+        while (run.size() <= CALLS - CALLS_OF_A_TURN) {
             if (random.nextInt(12) == 0) {
                 if (!feeds() || !same("read()", x.read(), m.read())) {
                     return false;

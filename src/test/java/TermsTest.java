@@ -219,7 +219,7 @@ final class TermsTest {
             int most = 0;
             for (int rate = 0; rate <= 100; rate++) {
                 x.rate(0, rate);
-                int gathered = sum(x, 2);
+                int gathered = x.gather(0, 0, 0, 2) + x.gather(1, 0, 0, 2);
                 if (gathered > most) {
                     best = rate;
                     most = gathered;
