@@ -27,6 +27,7 @@ final class DealingsTest {
         rowsAreOfTheLatest();
         readerTakesRows();
         readerOfAlteredRows();
+        readerOfMissingChoices();
         C.end();
     }
 
@@ -536,5 +537,35 @@ final class DealingsTest {
         C.due("36: not rising ahead of doesn't HOLD", x.judge(9999), 2);
         x.alterRow(0, 1, 99);
         C.due("36: the first that isn't so", x.judge(9999), 1);
+    }
+
+    /** A CHOICE that isn't there brings nothing: the number beside it may look right all the same. */
+    private static void readerOfMissingChoices() {
+        DebtCouncil x = new DebtCouncil();
+        x.choice(5, 5, 5, 0);
+        x.choice(5, 5, 5, 0);
+        x.choose(10);
+        for (int missing : new int[] {2, 7, 8, 99, Integer.MAX_VALUE}) {
+            x.alterRow(1, 0, missing);
+            x.alterRow(1, 1, 5);
+            C.due("36: CHOICE " + missing + " isn't there, with the number of ROW 0", x.judge(5), 2);
+            C.due("36: it isn't so, ahead of doesn't HOLD", x.judge(6), 2);
+        }
+        x.dropRow();
+        for (int missing : new int[] {Integer.MIN_VALUE, -1, 2, 8, Integer.MAX_VALUE}) {
+            x.alterRow(0, 0, missing);
+            x.alterRow(0, 1, 0);
+            C.due("36: CHOICE " + missing + " isn't there, with 0", x.judge(0), 1);
+        }
+        DebtCouncil y = new DebtCouncil();
+        y.keep();
+        y.choice(0, 0, 0, 0);
+        y.choice(1, 1, 1, 0);
+        C.due("32: CHOICE 1", y.choose(1), 2);
+        y.alterRow(0, 0, 0);
+        y.alterRow(0, 1, 0);
+        C.due("36: CHOICE 0 is there", y.judge(0), 0);
+        y.again();
+        C.due("36: CHOICE 0 is there no more", y.judge(0), 1);
     }
 }

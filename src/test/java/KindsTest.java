@@ -20,6 +20,7 @@ final class KindsTest {
         sheetsAnew();
         rowsOnShelves();
         emptyRows();
+        longRows();
         shelvesHoldOne();
         againWithoutKeep();
         keptNothing();
@@ -325,6 +326,24 @@ final class KindsTest {
         C.due("5: three items of two", x.yields(0, 3, 0), -12);
         x.sheet(3, 1, 3);
         C.due("5: three items of three", x.yields(0, 3, 0), 1);
+    }
+
+    /** How long a row is must not be taken for the number of a thing. */
+    private static void longRows() {
+        DebtCouncil x = debtOnShelf(1, 2, 0, 5);
+        for (int n : new int[] {0, 1, 2, 15, 16, 20, 40}) {
+            x.sheet(0, 2, n);
+            x.shelf(1, 2, 0);
+            C.due("41: how many items", x.taken(1, 12), n);
+            for (int as = 0; as <= 6; as++) {
+                C.due("41: a row of " + n + " is no thing of KIND " + as, x.taken(1, as), -13);
+            }
+            for (int deal = 0; deal < 4; deal++) {
+                x.deal(0, deal, 1);
+                C.due("42: a row of " + n + ", deal " + deal, x.deal(1, deal, 1), 0);
+                C.due("42: no TRACE then", x.many(13), 0);
+            }
+        }
     }
 
     private static void shelvesHoldOne() {
