@@ -7,6 +7,7 @@ final class DealingsTest {
         monthsAtTheirEnds();
         noPapers();
         manyPapers();
+        unevenBooks();
         mostPairs();
         pairsTriedOut();
         swapJustTaken();
@@ -111,6 +112,22 @@ final class DealingsTest {
         C.due("4: none SINGLE", uneven.bills(-3), 0);
         C.due("28: with 17 others", uneven.bills(0), 17);
         C.due("28: with 3 others", uneven.bills(3), 3);
+    }
+
+    /** 20 alike, so many of them in BOOK 0: most searches for one more pair fail, and must still end soon. */
+    private static void unevenBooks() {
+        for (int k = 0; k <= 20; k++) {
+            for (int first = 0; first <= 1; first++) {
+                DebtCouncil x = new DebtCouncil();
+                for (int i = 0; i < 20; i++) {
+                    x.paper(i < k ? first : 1 - first, 7, 30, 5 + i % 2);
+                }
+                String name = k + " in BOOK " + first;
+                C.due("4: COUNT, " + name, x.bills(-1), Math.max(k, 20 - k));
+                C.due("4: SURE, " + name, x.bills(-2), 7 * Math.max(k, 20 - k));
+                C.due("4: SINGLE, " + name, x.bills(-3), k == 0 || k == 20 ? 20 : 0);
+            }
+        }
     }
 
     /** The longest chain: each pair but the last must be given up for another. */
